@@ -130,6 +130,9 @@ public final class PromisesTest {
         Texts.feed(x, "guest deaf 0;");
         due("a table without portions", x.table(), 1);
         due("item 39 is 0 again", x.wanted(0, 0, 7, 39), 1);
+        x.set(7, 0, 1);
+        x.row(7, 1, 40);
+        due("item 0 is 0 again", x.wanted(0, 0, 7, 0), 1);
         due("shorter, in place", x.row(7, 1, 3), 3);
         due("no fourth item", x.set(7, 3, 1), PLACE);
     }
@@ -300,6 +303,10 @@ public final class PromisesTest {
         fault("dish 3;", 0, 1);
         fault("guests eater 0;", 0, 1);
         fault("gues eater 0;", 0, 1);
+        fault("guestz eater 0;", 0, 1);
+        fault("xuest eater 0;", 0, 1);
+        fault("guest beaf 0;", 6, 1);
+        fault("guest drunks 0;", 6, 1);
         fault("Guest eater 0;", 0, 1);
         fault("guest", 5, 1);
         fault("guest  ", 7, 1);
@@ -426,6 +433,9 @@ public final class PromisesTest {
         x.turn(1);
         x.minutes(2);
         due("an empty dish is not pushed for", x.minutes(1), 0);
+        x = Texts.table("guest eater 3;guest deaf 5;guest deaf 5;guest deaf 5;guest deaf 5;"
+                + "dish 0;dish 0;dish 0;dish 9;");
+        due("3 to the left, 2 to the right: 1 to the right", x.minutes(1), 4);
     }
 
     private static void sortsInAMinute() {
