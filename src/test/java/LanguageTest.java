@@ -116,6 +116,8 @@ public final class LanguageTest {
         Map<String, Set<String>> called = new LinkedHashMap<>();
         for (Map.Entry<String, String> body : bodies.entrySet()) {
             Check.holds(body.getKey() + " is short", body.getValue().lines().count() <= 60);
+            Check.holds(body.getKey() + " makes no object: constructors alone do",
+                    !Pattern.compile("\\bnew\\b").matcher(body.getValue()).find());
             Set<String> names = new TreeSet<>();
             Matcher call = Pattern.compile("\\b([a-zA-Z0-9]+)\\(").matcher(body.getValue());
             while (call.find()) {
