@@ -18,6 +18,7 @@ public final class AskBoundariesTest {
         asNoSuchOne();
         askRefused();
         sizeOfNothingEaten();
+        sizeOfWhatIsEaten();
         markOfFirstAndLast();
         traceFirstAndLast();
         traceOfEachAsk();
@@ -168,6 +169,20 @@ public final class AskBoundariesTest {
         for (int guest = 0; guest < 5; guest++) {
             due("of " + guest, x.ask(guest, 0), sizes[guest]);
         }
+    }
+
+    private static void sizeOfWhatIsEaten() {
+        Check.says("0 SIZE: 10 lent to all GUESTS: what he has EATEN.");
+        TurningDishes x = Texts.table("guest deaf 0;guest greedy 5;dish 30;dish 30;");
+        for (int eaten = 1; eaten <= 12; eaten++) {
+            x.minutes(2);
+            due("of a deaf one", x.ask(0, 0), eaten - 100);
+            due("of a greedy one", x.ask(1, 0), eaten + 1 + 5 - 1000);
+        }
+        x.undo();
+        due("undone: of a greedy one", x.ask(1, 0), 11 + 1 + 5 - 1000);
+        due("undone: of a deaf one", x.ask(0, 0), 12 - 100);
+        due("MARK of a deaf one, less SIZE", x.ask(0, 1), 0 - (12 - 100));
     }
 
     private static void markOfFirstAndLast() {

@@ -30,7 +30,9 @@ public final class ForetoldBoundariesTest {
         servedThereAndBack();
         laidFewestAndMost();
         laidFirstOfSeveral();
+        laidFirstOfSeveralThatPush();
         laidLastOfAll();
+        laidEachOfAll();
         laidNextMinute();
         laidRefused();
         wantedFewestAndMost();
@@ -423,6 +425,26 @@ public final class ForetoldBoundariesTest {
         }
     }
 
+    private static void laidFirstOfSeveralThatPush() {
+        Check.says("of several the first (the least first)");
+        for (int n = 1; n <= 6; n++) {
+            TurningDishes x = drunk(n);
+            for (int d = 0; d < n; d++) {
+                due("all push alike, dish " + d + " of " + n, x.laid(20, d), d);
+            }
+        }
+        TurningDishes x = Texts.table("guest drunk 5;guest eater 2;guest deaf 5;dish 9;dish 9;dish 9;");
+        due("1 is pushed, if dish 2 comes into slot 2", x.laid(2, -1), 1);
+        due("dish 0", x.laid(2, 0), 0);
+        due("dish 1", x.laid(2, 1), 1);
+        x.lay(0, 2);
+        due("wherever it lies now", x.laid(2, 2), 2);
+        x.turn(1);
+        due("by the TURN now, 1 is pushed, if it comes into slot 0", x.laid(2, -1), 1);
+        due("dish 2", x.laid(2, 2), 0);
+        due("the others in order", x.laid(2, 0), 1);
+    }
+
     /** Seat g wants dish n - 1 - g: only the very last row of SLOTS pushes nothing. */
     private static void laidLastOfAll() {
         Check.says("of all rows of SLOTS, unlike ones, for DISHES 0 on");
@@ -437,6 +459,43 @@ public final class ForetoldBoundariesTest {
                 due("dish " + d + " of " + n, x.laid(n, d), n - 1 - d);
             }
             due("nothing is pushed in 20", x.laid(20, -1), 0);
+        }
+    }
+
+    /** For each row of SLOTS a table by which that one alone pushes nothing in as many MINUTES as GUESTS. */
+    private static void laidEachOfAll() {
+        Check.says("of all rows of SLOTS, unlike ones, for DISHES 0 on");
+        for (int n = 1; n <= 6; n++) {
+            int rows = 0;
+            for (int number = 0; number < Math.pow(n, n); number++) {
+                int[] slots = new int[n];
+                int used = 0;
+                for (int d = n - 1, left = number; d >= 0; d--, left /= n) {
+                    slots[d] = left % n;
+                    used |= 1 << slots[d];
+                }
+                if (used == (1 << n) - 1) {
+                    rows++;
+                    laidAs(slots);
+                }
+            }
+            due("rows of " + n, rows, new int[] {1, 1, 2, 6, 24, 120, 720}[n]);
+        }
+    }
+
+    private static void laidAs(int[] slots) {
+        int n = slots.length;
+        int[] wants = new int[n];
+        for (int d = 0; d < n; d++) {
+            wants[slots[d]] = d;
+        }
+        StringBuilder text = new StringBuilder();
+        for (int dish : wants) {
+            text.append("guest eater ").append(dish).append(';');
+        }
+        TurningDishes x = Texts.table(text + "dish 9;".repeat(n));
+        for (int d = 0; d < n; d++) {
+            due("dish " + d + " of " + text, x.laid(n, d), slots[d]);
         }
     }
 

@@ -9,6 +9,8 @@ public final class MinuteBoundariesTest {
 
     public static void main(String[] args) {
         before();
+        beforeSeatsInARing();
+        beforeSlotsInARing();
         turnsWrapAround();
         farthestTurns();
         quarter();
@@ -74,6 +76,82 @@ public final class MinuteBoundariesTest {
                 x.turn(1);
             }
             due("once around", x.guest(0, 3), 0);
+        }
+    }
+
+    /** GUEST g comes to sit in SEAT g + 1, the last one in SEAT 0. */
+    private static void beforeSeatsInARing() {
+        Check.says("two GUESTS change SEATS");
+        for (int n = 2; n <= 6; n++) {
+            TurningDishes x = Texts.table("guest greedy 5;".repeat(n - 1) + "guest deaf 0;" + "dish 1;".repeat(n));
+            for (int g = 0; g < n - 1; g++) {
+                due("seat of " + g, x.change(g, g + 1), g + 1);
+            }
+            for (int g = 0; g < n; g++) {
+                due("seat of " + g + " of " + n, x.guest(g, 0), (g + 1) % n);
+                due("before " + g + " of " + n, x.guest(g, 3), (g + 1) % n);
+            }
+            due("of two who sit elsewhere, the first", x.change(0, 1), 2 % n);
+            due("of two who sit elsewhere, the second", x.guest(1, 0), 1);
+            due("before the second", x.guest(1, 3), 1);
+            due("and back", x.change(1, 0), 2 % n);
+            x.undo();
+            x.undo();
+            due("the last one is on in minute 0", x.last(0, 0), n - 1);
+            due("he eats it at once", x.last(0, 1), 1);
+            x.undo();
+            due("a change undone: seat of the last", x.guest(n - 1, 0), n - 1);
+            due("a change undone: seat of the one before", x.guest(n - 2, 0), 0);
+            x = Texts.table("guest eater 0;" + NOBODY.repeat(n - 1) + "dish 9;");
+            for (int g = 0; g < n - 1; g++) {
+                x.change(g, g + 1);
+            }
+            due("guest 0 of " + n + " in seat 1: his dish comes from the right", x.ahead(2, 0), n - 1);
+            x = Texts.table("guest eater 0;" + NOBODY.repeat(n - 1) + "dish 9;");
+            for (int g = n - 1; g > 0; g--) {
+                x.change(g, g - 1);
+            }
+            due("guest 0 of " + n + " sits in the last seat", x.guest(0, 0), n - 1);
+            due("his dish comes from the left", x.ahead(n, 0), 1);
+        }
+    }
+
+    /** DISH d comes to lie in SLOT d + 1, the last one in SLOT 0. */
+    private static void beforeSlotsInARing() {
+        Check.says("two DISHES change SLOTS");
+        for (int n = 2; n <= 6; n++) {
+            TurningDishes x = quiet(n);
+            for (int d = 0; d < n - 1; d++) {
+                due("slot of " + d, x.lay(d, d + 1), d + 1);
+            }
+            for (int d = 0; d < n; d++) {
+                due("slot of " + d + " of " + n, x.dish(d, 1), (d + 1) % n);
+                due("before guest " + d + " of " + n, x.guest(d, 3), (d + n - 1) % n);
+            }
+            due("of two that lie elsewhere, the first", x.lay(0, 1), 2 % n);
+            due("of two that lie elsewhere, the second", x.dish(1, 1), 1);
+            due("before guest 1, the second", x.guest(1, 3), 1);
+            due("and back", x.lay(1, 0), 2 % n);
+            x.undo();
+            x.undo();
+            x.turn(1);
+            due("before guest 0, turned", x.guest(0, 3), 0);
+            x.undo();
+            x.undo();
+            due("a change undone: slot of the last", x.dish(n - 1, 1), n - 1);
+            due("a change undone: slot of the one before", x.dish(n - 2, 1), 0);
+            due("a change undone: before the last", x.guest(n - 1, 3), n - 1);
+            x = Texts.table("guest eater 0;" + NOBODY.repeat(n - 1) + "dish 9;");
+            for (int d = 0; d < n - 1; d++) {
+                x.lay(d, d + 1);
+            }
+            due("dish 0 of " + n + " in slot 1: it comes from the left", x.ahead(1, 0), 1);
+            x = Texts.table("guest eater 0;" + NOBODY.repeat(n - 1) + "dish 9;");
+            for (int d = n - 1; d > 0; d--) {
+                x.lay(d, d - 1);
+            }
+            due("dish 0 of " + n + " lies in the last slot", x.dish(0, 1), n - 1);
+            due("it comes from the right", x.ahead(1, 0), n - 1);
         }
     }
 

@@ -22,6 +22,7 @@ public final class TextBoundariesTest {
         noBlanks();
         fewestGuests();
         dishesAheadOfGuests();
+        words();
         sorts();
         wants();
         sixGuests();
@@ -241,6 +242,20 @@ public final class TextBoundariesTest {
         fault(" ", 1, 1);
     }
 
+    /** Of each word every letter counts, the first and the last too, and how many there are. */
+    private static void words() {
+        Check.says("guest: 'guest' SORT WANTS ';'");
+        String text = "guest deaf 0;dish 1;";
+        int[][] words = {{0, 5}, {6, 10}, {13, 17}};
+        for (int[] word : words) {
+            for (int at = word[0]; at < word[1]; at++) {
+                fault(text.substring(0, at) + "q" + text.substring(at + 1), word[0], 1);
+                fault(text.substring(0, at) + text.substring(at + 1), word[0], 1);
+                fault(text.substring(0, at) + "q" + text.substring(at), word[0], 1);
+            }
+        }
+    }
+
     private static void dishesAheadOfGuests() {
         Check.says("table: guest { guest } { dish }.");
         fault(DISH, 0, 1);
@@ -257,6 +272,8 @@ public final class TextBoundariesTest {
             fault("guest " + SORTS[k] + "s 0;", 6, 1);
             fault("guest " + SORTS[k].substring(0, SORTS[k].length() - 1) + " 0;", 6, 1);
             fault("guest " + SORTS[k].substring(1) + " 0;", 6, 1);
+            fault("guest a" + SORTS[k].substring(1) + " 0;", 6, 1);
+            fault("guest z" + SORTS[k].substring(1) + " 0;", 6, 1);
             fault(SORTS[k] + " 0;", 0, 1);
         }
         fault("guest guest 0;", 6, 1);
